@@ -36,22 +36,22 @@ public final class KateDesk {
     private int powerCount = 0;
     private final Row tape = new Row();
     private final Row written = new Row();
-    private final Point generator = new Point();
+    private final Point generator;
     private final Point handPoint = new Point();
     private final Point multiple = new Point();
     private final long[] handScalar = new long[Limbs.COUNT];
     private final long[] factor = new long[Limbs.COUNT];
 
     public KateDesk() {
-        scalarField = new Field(R);
-        Field coordinates = new Field(Q);
-        curve = new Curve(coordinates);
-        sums = new Sums(curve);
-        forms = new Forms(coordinates, curve);
-        polynomials = new Polynomials(scalarField);
-        coordinates.lift(generator.x, Limbs.fromHex(GX));
-        coordinates.lift(generator.y, Limbs.fromHex(GY));
-        Limbs.copy(generator.z, coordinates.one);
+        Field moduloR = new Field(R);
+        Field moduloQ = new Field(Q);
+        Curve overQ = new Curve(moduloQ);
+        scalarField = moduloR;
+        curve = overQ;
+        sums = new Sums(overQ);
+        forms = new Forms(moduloQ, overQ);
+        polynomials = new Polynomials(moduloR);
+        generator = newGenerator(moduloQ);
     }
 
     public int feed(int n, long v) throws IllegalArgumentException, IllegalStateException {
@@ -180,10 +180,8 @@ public final class KateDesk {
             points[p].becomeNothing();
         } else if (what == 1) {
             points[p].copy(generator);
-        } else if (what == 2) {
-            curve.add(points[p], points[q], points[r]);
         } else {
-            curve.subtract(points[p], points[q], points[r]);
+            curve.add(points[p], points[q], points[r], what == 3);
         }
     }
 
@@ -325,6 +323,14 @@ public final class KateDesk {
         for (int i = 0; i < n; i++) {
             made[i] = new Point();
         }
+        return made;
+    }
+
+    private static Point newGenerator(Field moduloQ) {
+        Point made = new Point();
+        moduloQ.lift(made.x, Limbs.fromHex(GX));
+        moduloQ.lift(made.y, Limbs.fromHex(GY));
+        Limbs.copy(made.z, moduloQ.one);
         return made;
     }
 
@@ -667,16 +673,13 @@ public final class KateDesk {
             this.field = field;
         }
 
-        void add(Point to, Point a, Point b) {
-            addWithY(to, a, b, b.y);
-        }
-
-        void subtract(Point to, Point a, Point b) {
-            field.negate(opposite, b.y);
-            addWithY(to, a, b, opposite);
-        }
-
-        private void addWithY(Point to, Point a, Point b, long[] by) {
+        /** a and b, or a and minus b. */
+        void add(Point to, Point a, Point b, boolean minus) {
+            long[] by = b.y;
+            if (minus) {
+                field.negate(opposite, b.y);
+                by = opposite;
+            }
             field.multiply(xx, a.x, b.x);
             field.multiply(yy, a.y, by);
             field.multiply(zz, a.z, b.z);
@@ -790,7 +793,7 @@ public final class KateDesk {
             odds[first].copy(p);
             curve.twice(sum, p);
             for (int i = first + 1; i < first + ODDS; i++) {
-                curve.add(odds[i], odds[i - 1], sum);
+                curve.add(odds[i], odds[i - 1], sum, false);
             }
         }
 
@@ -799,14 +802,13 @@ public final class KateDesk {
             byte[] row = digits[term];
             Arrays.fill(row, (byte) 0);
             int carry = 0;
-            int step = 1;
-            for (int i = 0; i <= count; i += step) {
+            int free = 0;
+            for (int i = 0; i <= count; i++) {
                 int digit = carry + (int) Limbs.bits(scalar, from + i, Math.min(WIDTH, count - i));
-                step = 1;
-                if ((digit & 1) == 1) {
+                if (i >= free && (digit & 1) == 1) {
                     carry = digit >> WIDTH - 1;
                     row[i] = (byte) (digit - (carry << WIDTH));
-                    step = WIDTH;
+                    free = i + WIDTH;
                 }
             }
         }
@@ -820,11 +822,8 @@ public final class KateDesk {
                 }
                 for (int term = 0; term < terms; term++) {
                     int digit = digits[term][i];
-                    if (digit > 0) {
-                        curve.add(sum, sum, odds[term * ODDS + digit / 2]);
-                        begun = true;
-                    } else if (digit < 0) {
-                        curve.subtract(sum, sum, odds[term * ODDS - digit / 2]);
+                    if (digit != 0) {
+                        curve.add(sum, sum, odds[term * ODDS + Math.abs(digit) / 2], digit < 0);
                         begun = true;
                     }
                 }

@@ -1,0 +1,177 @@
+import java.math.BigInteger;
+import java.util.NoSuchElementException;
+
+/** One KateDesk and one PlainDesk that get the same calls; every answer that differs is printed and counted. */
+final class Pair {
+    private static int wrong = 0;
+    private static int asked = 0;
+
+    final String name;
+    final KateDesk desk = new KateDesk();
+    final PlainDesk plain = new PlainDesk();
+    private int calls = 0;
+
+    Pair(String name) {
+        this.name = name;
+    }
+
+    int calls() {
+        return calls;
+    }
+
+    static void due(String what, String got, String want) {
+        asked++;
+        if (!got.equals(want)) {
+            wrong++;
+            System.out.println(what + " answered " + got + ", due is " + want);
+        }
+    }
+
+    /** Ends the test: with exit code 1 if an answer was wrong, or if nothing was asked. */
+    static void end() {
+        System.out.println(asked + " answers, " + wrong + " wrong");
+        if (wrong != 0 || asked == 0) {
+            System.exit(1);
+        }
+    }
+
+    /** A call by its name with all its arguments as longs (a boolean is 1 or 0): the answer of both as text. */
+    String call(String method, long... v) {
+        StringBuilder text = new StringBuilder(name + ": " + method + "(");
+        calls++;
+        if (calls == 513) {
+            due(name + ": the test's own calls", "too many", "512 at the most");
+        }
+        for (int i = 0; i < v.length; i++) {
+            text.append(i == 0 ? "" : ", ").append(v[i]);
+        }
+        String want = answer(false, method, v);
+        String got = answer(true, method, v);
+        due(text.append(")").toString(), got, want);
+        return got;
+    }
+
+    /** A call whose answer the test writes down itself; the plain desk must say so too. */
+    void call(Object want, String method, long... v) {
+        String got = call(method, v);
+        due(name + ": " + method + java.util.Arrays.toString(v) + " as written down", got, String.valueOf(want));
+    }
+
+    void illegal(String method, long... v) {
+        call("throws.IllegalArgumentException", method, v);
+    }
+
+    private String answer(boolean real, String method, long[] v) {
+        try {
+            Object answer = real ? ofDesk(method, v) : ofPlain(method, v);
+            return String.valueOf(answer);
+        } catch (IllegalArgumentException | IllegalStateException | ArithmeticException | NoSuchElementException e) {
+            return "throws." + e.getClass().getSimpleName();
+        } catch (RuntimeException e) {
+            return "throws by itself " + e;
+        }
+    }
+
+    private static int i(long[] v, int k) {
+        return (int) v[k];
+    }
+
+    private Object ofDesk(String method, long[] v) {
+        switch (method) {
+            case "feed": return desk.feed(i(v, 0), v[1]);
+            case "number": return desk.number(i(v, 0));
+            case "set": desk.set(i(v, 0), v[1]); return "done";
+            case "word": return desk.word(i(v, 0), i(v, 1));
+            case "reckon": desk.reckon(i(v, 0), i(v, 1), i(v, 2), i(v, 3)); return "done";
+            case "power": desk.power(i(v, 0), i(v, 1), v[2]); return "done";
+            case "unity": desk.unity(i(v, 0), i(v, 1)); return "done";
+            case "point": return desk.point(i(v, 0));
+            case "bytes": desk.bytes(i(v, 0), v[1] == 1); return "done";
+            case "out": return desk.out(i(v, 0));
+            case "join": desk.join(i(v, 0), i(v, 1), i(v, 2), i(v, 3)); return "done";
+            case "times": desk.times(i(v, 0), i(v, 1), i(v, 2)); return "done";
+            case "combine": desk.combine(i(v, 0), i(v, 1), i(v, 2), i(v, 3)); return "done";
+            case "same": return desk.same(i(v, 0), i(v, 1));
+            case "setup": desk.setup(i(v, 0), i(v, 1)); return "done";
+            case "commit": desk.commit(i(v, 0), i(v, 1), i(v, 2)); return "done";
+            case "open": desk.open(i(v, 0), i(v, 1), i(v, 2), i(v, 3)); return "done";
+            case "checks": return desk.checks(i(v, 0), i(v, 1), i(v, 2), i(v, 3), i(v, 4));
+            case "transform": desk.transform(i(v, 0), i(v, 1), v[2] == 1); return "done";
+            case "lagrange": desk.lagrange(i(v, 0), i(v, 1), i(v, 2), i(v, 3)); return "done";
+            default: return desk.look(i(v, 0));
+        }
+    }
+
+    private Object ofPlain(String method, long[] v) {
+        switch (method) {
+            case "feed": return plain.feed(i(v, 0), v[1]);
+            case "number": return plain.number(i(v, 0));
+            case "set": plain.set(i(v, 0), v[1]); return "done";
+            case "word": return plain.word(i(v, 0), i(v, 1));
+            case "reckon": plain.reckon(i(v, 0), i(v, 1), i(v, 2), i(v, 3)); return "done";
+            case "power": plain.power(i(v, 0), i(v, 1), v[2]); return "done";
+            case "unity": plain.unity(i(v, 0), i(v, 1)); return "done";
+            case "point": return plain.point(i(v, 0));
+            case "bytes": plain.bytes(i(v, 0), v[1] == 1); return "done";
+            case "out": return plain.out(i(v, 0));
+            case "join": plain.join(i(v, 0), i(v, 1), i(v, 2), i(v, 3)); return "done";
+            case "times": plain.times(i(v, 0), i(v, 1), i(v, 2)); return "done";
+            case "combine": plain.combine(i(v, 0), i(v, 1), i(v, 2), i(v, 3)); return "done";
+            case "same": return plain.same(i(v, 0), i(v, 1));
+            case "setup": plain.setup(i(v, 0), i(v, 1)); return "done";
+            case "commit": plain.commit(i(v, 0), i(v, 1), i(v, 2)); return "done";
+            case "open": plain.open(i(v, 0), i(v, 1), i(v, 2), i(v, 3)); return "done";
+            case "checks": return plain.checks(i(v, 0), i(v, 1), i(v, 2), i(v, 3), i(v, 4));
+            case "transform": plain.transform(i(v, 0), i(v, 1), v[2] == 1); return "done";
+            case "lagrange": plain.lagrange(i(v, 0), i(v, 1), i(v, 2), i(v, 3)); return "done";
+            default: return plain.look(i(v, 0));
+        }
+    }
+
+    void feedBytes(byte... bytes) {
+        for (int from = 0; from < bytes.length; from += 8) {
+            long v = 0;
+            int n = Math.min(8, bytes.length - from);
+            for (int k = 0; k < n; k++) {
+                v |= (bytes[from + k] & 255L) << 8 * k;
+            }
+            call("feed", n, v);
+        }
+    }
+
+    /** Feeds a number of 32 bytes, lowest first, and reads it into a scalar. */
+    void number(int a, BigInteger n) {
+        byte[] bytes = new byte[32];
+        for (int k = 0; k < 32; k++) {
+            bytes[k] = n.shiftRight(8 * k).byteValue();
+        }
+        feedBytes(bytes);
+        call("number", a);
+    }
+
+    void seeScalar(int a) {
+        for (int k = 0; k < 8; k++) {
+            call("word", a, k);
+        }
+    }
+
+    void seePoint(int p) {
+        call("bytes", p, 1);
+        for (int k = 0; k < 48; k += 8) {
+            call("out", k);
+        }
+    }
+
+    /** All that the calls can tell of the state: some 350 calls. */
+    void seeAll() {
+        for (int k = 0; k < 3; k++) {
+            call("look", k);
+        }
+        for (int a = 0; a < 32; a++) {
+            seeScalar(a);
+        }
+        for (int p = 0; p < 12; p++) {
+            seePoint(p);
+        }
+    }
+}
