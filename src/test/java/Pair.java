@@ -3,6 +3,15 @@ import java.util.NoSuchElementException;
 
 /** One KateDesk and one PlainDesk that get the same calls; every answer that differs is printed and counted. */
 final class Pair {
+    static final int MOST_CALLS = 512;
+    /** The calls that seeWhole makes at the most: before it an object has so many fewer. */
+    static final int CALLS_TO_SEE = 375;
+    static final int[] NO_SCALARS = outside(0, 31);
+    static final int[] NO_POINTS = outside(0, 11);
+    /** What a furnished pair holds: a scalar that is 0, a point that is nothing, and so many powers. */
+    static final int ZERO = 20;
+    static final int NOTHING = 6;
+    static final int POWERS = 5;
     private static int wrong = 0;
     private static int asked = 0;
 
@@ -15,8 +24,42 @@ final class Pair {
         this.name = name;
     }
 
+    /** The two numbers next to a range, a far one that a mask might take for one inside, and the farthest. */
+    static int[] outside(int least, int most) {
+        return new int[] {least - 1, most + 1, most + 257, Integer.MIN_VALUE, Integer.MAX_VALUE};
+    }
+
+    /**
+     * A pair in which all things hold something, no two of them the same: what a call changes that
+     * should change nothing, is seen.
+     */
+    static Pair furnished(String name) {
+        Pair x = new Pair(name);
+        x.call("set", 0, 1000003);
+        for (int a = 1; a < 32; a++) {
+            if (a != ZERO) {
+                x.call("power", a, 0, Long.MAX_VALUE - 977L * a);
+            }
+        }
+        x.call("join", 1, 0, 0, 0);
+        for (int p = 1; p < 12; p++) {
+            if (p != NOTHING) {
+                x.call("times", p, p, 0);
+            }
+        }
+        x.call("setup", 12, POWERS);
+        x.call("bytes", 3, 1);
+        x.call("feed", 5, 0x1122334455L);
+        return x;
+    }
+
     int calls() {
         return calls;
+    }
+
+    /** Whether so many calls more leave room for seeWhole. */
+    boolean hasRoomFor(int more) {
+        return calls + more + CALLS_TO_SEE <= MOST_CALLS;
     }
 
     static void due(String what, String got, String want) {
@@ -39,8 +82,8 @@ final class Pair {
     String call(String method, long... v) {
         StringBuilder text = new StringBuilder(name + ": " + method + "(");
         calls++;
-        if (calls == 513) {
-            due(name + ": the test's own calls", "too many", "512 at the most");
+        if (calls == MOST_CALLS + 1) {
+            due(name + ": the test's own calls", "too many", MOST_CALLS + " at the most");
         }
         for (int i = 0; i < v.length; i++) {
             text.append(i == 0 ? "" : ", ").append(v[i]);
@@ -57,8 +100,16 @@ final class Pair {
         due(name + ": " + method + java.util.Arrays.toString(v) + " as written down", got, String.valueOf(want));
     }
 
+    void refused(String exception, String method, long... v) {
+        call("throws." + exception, method, v);
+    }
+
     void illegal(String method, long... v) {
-        call("throws.IllegalArgumentException", method, v);
+        refused("IllegalArgumentException", method, v);
+    }
+
+    void done(String method, long... v) {
+        call("done", method, v);
     }
 
     private String answer(boolean real, String method, long[] v) {
@@ -139,14 +190,43 @@ final class Pair {
         }
     }
 
-    /** Feeds a number of 32 bytes, lowest first, and reads it into a scalar. */
-    void number(int a, BigInteger n) {
+    /** Feeds a number of 32 bytes, lowest first. */
+    void feedNumber(BigInteger n) {
         byte[] bytes = new byte[32];
         for (int k = 0; k < 32; k++) {
             bytes[k] = n.shiftRight(8 * k).byteValue();
         }
         feedBytes(bytes);
+    }
+
+    void number(int a, BigInteger n) {
+        feedNumber(n);
         call("number", a);
+    }
+
+    /** A scalar whose value the test writes down itself. */
+    void holds(int a, BigInteger n) {
+        for (int k = 0; k < 8; k++) {
+            call(n.shiftRight(32 * k).longValue() & 0xffffffffL, "word", a, k);
+        }
+    }
+
+    /** A point, nothing being null, that the test writes down itself. */
+    void isPoint(int p, BigInteger[] want) {
+        call("bytes", p, 0);
+        seeOut(PlainDesk.form(want, false));
+    }
+
+    /** All of OUT, as the test writes it down itself. */
+    void seeOut(byte[] want) {
+        call(want.length, "look", 2);
+        for (int k = 0; k < want.length; k += 8) {
+            long eight = 0;
+            for (int i = 7; i >= 0; i--) {
+                eight = eight << 8 | want[k + i] & 255;
+            }
+            call(eight, "out", k);
+        }
     }
 
     void seeScalar(int a) {
@@ -162,16 +242,28 @@ final class Pair {
         }
     }
 
-    /** All that the calls can tell of the state: some 350 calls. */
-    void seeAll() {
-        for (int k = 0; k < 3; k++) {
-            call("look", k);
+    /** All that the calls can tell of the state; the tape and the powers come last, as to see them changes others. */
+    void seeWhole() {
+        for (int what = 0; what < 3; what++) {
+            call("look", what);
+        }
+        for (int k = 0; k < 96; k += 8) {
+            call("out", k);
         }
         for (int a = 0; a < 32; a++) {
             seeScalar(a);
         }
         for (int p = 0; p < 12; p++) {
             seePoint(p);
+        }
+        call("commit", 11, 1, plain.powers.size());
+        seePoint(11);
+        if (plain.tape.length > 32) {
+            call("point", 11);
+            seePoint(11);
+        } else {
+            call("number", 31);
+            seeScalar(31);
         }
     }
 }

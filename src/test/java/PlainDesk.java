@@ -1,7 +1,9 @@
 import java.math.BigInteger;
 import java.util.ArrayList;
 import java.util.Arrays;
+import java.util.HashMap;
 import java.util.List;
+import java.util.Map;
 import java.util.NoSuchElementException;
 
 /** The document once more, in the plainest words that the Java library has: what the tests compare with. */
@@ -12,6 +14,7 @@ final class PlainDesk {
         hex("17f1d3a73197d7942695638c4fa9ac0fc3688c4f9774b905a14e3a3f171bac586c55e83ff97a1aeffb3af00adb22c6bb"),
         hex("08b3f481e3aaa0f1a09e30ed741d8ae4fcf5e095d5d00af600db18cb2c04b3edd03cc744a2888ae40caa232946c5e7e1")};
     static final BigInteger FOUR = BigInteger.valueOf(4);
+    private static final Map<List<BigInteger>, BigInteger[]> MULTIPLES = new HashMap<>();
 
     final BigInteger[] scalars = new BigInteger[32];
     final BigInteger[][] points = new BigInteger[12][];
@@ -46,7 +49,16 @@ final class PlainDesk {
         return a == null ? null : new BigInteger[] {a[0], Q.subtract(a[1]).mod(Q)};
     }
 
+    /** Tests begin with the same points again and again, so a multiple is kept once it has been found. */
     static BigInteger[] multiple(BigInteger s, BigInteger[] a) {
+        List<BigInteger> key = a == null ? List.of(s) : List.of(s, a[0], a[1]);
+        if (!MULTIPLES.containsKey(key)) {
+            MULTIPLES.put(key, doubledAndAdded(s, a));
+        }
+        return MULTIPLES.get(key);
+    }
+
+    private static BigInteger[] doubledAndAdded(BigInteger s, BigInteger[] a) {
         BigInteger[] all = null;
         for (int i = s.bitLength() - 1; i >= 0; i--) {
             all = sum(all, all);

@@ -4,7 +4,7 @@ import java.util.Random;
 /** Runs of mixed calls, drawn anew in the same way each time, with all of the state looked at in the end. */
 public final class RunsTest {
     private static final int RUNS = 80;
-    private static final int CALLS_BEFORE_THE_LOOK = 150;
+    private static final int CALLS_OF_A_STEP = 14;
 
     private final Random draw;
     private final Pair pair;
@@ -17,10 +17,10 @@ public final class RunsTest {
     public static void main(String[] args) {
         for (int seed = 1; seed <= RUNS; seed++) {
             RunsTest run = new RunsTest(seed);
-            while (run.pair.calls() < CALLS_BEFORE_THE_LOOK) {
+            while (run.pair.hasRoomFor(CALLS_OF_A_STEP)) {
                 run.step();
             }
-            run.pair.seeAll();
+            run.pair.seeWhole();
         }
         Pair.end();
     }
