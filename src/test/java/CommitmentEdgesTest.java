@@ -14,6 +14,7 @@ public final class CommitmentEdgesTest {
         setupAgain();
         setupRefusesOtherCounts();
         commitOfNoTerms();
+        commitOfNoTermsAsksForItsPoint();
         commitUpToTheLastScalar();
         commitRefusesOtherCounts();
         commitRefusesScalarsThatAreNot();
@@ -110,19 +111,36 @@ public final class CommitmentEdgesTest {
         x.seeWhole();
     }
 
-    /** Promise 17: n 0: the sum is nothing, with no powers too, and no scalar is one of "these scalars". */
+    /**
+     * Promise 17: "or one of these scalars is none": they are the scalars a + i, for i from 0 to n - 1, so
+     * that n 0 asks for none of them, nor for a power; the sum is nothing.
+     */
     private static void commitOfNoTerms() {
         Pair x = Pair.furnished("promise 17, n 0");
+        Pair y = new Pair("promise 17, n 0 and no powers");
         for (int a : new int[] {-1, 0, 31, 32, Integer.MIN_VALUE, Integer.MAX_VALUE}) {
-            x.call("join", 1, 3, 0, 0);
-            x.done("commit", 3, a, 0);
-            x.call(true, "same", 3, Pair.NOTHING);
+            for (Pair each : new Pair[] {x, y}) {
+                each.call("join", 1, 3, 0, 0);
+                each.done("commit", 3, a, 0);
+                each.call(true, "same", 3, Pair.NOTHING);
+            }
         }
         x.seeWhole();
-        Pair y = new Pair("promise 17, n 0 and no powers");
-        y.call("join", 1, 3, 0, 0);
-        y.done("commit", 3, 0, 0);
-        y.isPoint(3, null);
+        y.seeWhole();
+    }
+
+    /** Promise 9 of promise 17: "(as all calls that name some do)": the point is asked for with n 0 too. */
+    private static void commitOfNoTermsAsksForItsPoint() {
+        Pair x = Pair.furnished("promise 17, n 0 and no such point");
+        Pair y = new Pair("promise 17, n 0, no such point, no powers");
+        for (int none : Pair.NO_POINTS) {
+            for (int a : new int[] {-1, 0, 31, 32}) {
+                x.illegal("commit", none, a, 0);
+                y.illegal("commit", none, a, 0);
+            }
+        }
+        x.seeWhole();
+        y.seeWhole();
     }
 
     /** Promise 17: "the sum of scalar a + i times power i, for i from 0 to n - 1", up to A31. */
